@@ -411,23 +411,19 @@ public final class RoomClimate {
 
         void conduct(Interior inside, int outerDegrees) {
             for (int k = 0; k < layers; k++) {
-                conductInto(k, inside);
+                long innerDegrees = k == 0 ? inside.warmth() : warmth(k - 1);
+                long flow = by(conductances[k] * (innerDegrees - warmth(k)), 100);
+                if (k == 0) {
+                    inside.gainHeat(WALLS, -flow);
+                } else {
+                    heats[k - 1] -= flow;
+                }
+                heats[k] += flow;
             }
             if (layers > 0) {
                 int last = layers - 1;
                 heats[last] += by(conductances[last] * (outerDegrees - warmth(last)), 100);
             }
-        }
-
-        private void conductInto(int k, Interior inside) {
-            long innerDegrees = k == 0 ? inside.warmth() : warmth(k - 1);
-            long flow = by(conductances[k] * (innerDegrees - warmth(k)), 100);
-            if (k == 0) {
-                inside.gainHeat(WALLS, -flow);
-            } else {
-                heats[k - 1] -= flow;
-            }
-            heats[k] += flow;
         }
 
         void copyFrom(Walls other) {
