@@ -4,14 +4,19 @@ public final class GoodsTest {
 
     public static void main(String[] args) {
         goodsAnswerWhatWas();
-        rowsAreNumbered();
-        rowRefuses();
+        whatIsTakenIsRoundedDown();
+        theMostGoods();
+        noGoodsHoldNothing();
         goodsTakeAFourth();
         goodsGiveAFourthRoundedDown();
         theFirstRowNotBelowCounts();
         behindTheLastRowTheLastCounts();
         withoutRowsNothingIsHeld();
         goodsTakeNoMoreThanThereIs();
+        goodsTakeJustAllThereIs();
+        goodsGiveToADryRoom();
+        aRowOfDampNothing();
+        aRowOfTheHighestDamp();
         t.end();
     }
 
@@ -19,38 +24,48 @@ public final class GoodsTest {
         RoomClimate x = new RoomClimate();
         t.due("goods(1000)", x.goods(1000), 0);
         t.due("goods(0)", x.goods(0), 1000);
-        t.due("goods(7)", x.goods(7), 0);
-        for (int wrong : new int[] {-1, 1001, Integer.MIN_VALUE, Integer.MAX_VALUE}) {
-            t.refused("goods(" + wrong + ")", Tester.ARGUMENT, x, () -> x.goods(wrong));
-        }
+        t.due("goods(0) again", x.goods(0), 0);
+        t.due("goods(1)", x.goods(1), 0);
+        t.due("goods(7)", x.goods(7), 1);
+        t.due("a refused call", Twins.thrownBy(x, y -> y.goods(1001)), "IllegalArgumentException");
         t.due("goods(8)", x.goods(8), 7);
     }
 
-    private static void rowsAreNumbered() {
-        RoomClimate x = new RoomClimate();
-        t.due("row 0", x.row(0, 0), 0);
-        t.due("row 1", x.row(1, 10000), 1);
-        t.due("row 2", x.row(2, 5), 2);
-        t.due("row 3", x.row(300, 5), 3);
-        t.due("row 4", x.row(59999, 5), 4);
-        t.due("row 5", x.row(60000, 5), 5);
-        t.due("rows", x.count(2), 6);
-        t.refused("a seventh row", Tester.STATE, x, () -> x.row(60000, 5));
-        t.refused("a seventh row, and wrong", Tester.STATE, x, () -> x.row(-1, -1));
+    /** One kilogram of goods that hold nothing yet. */
+    private static void whatIsTakenIsRoundedDown() {
+        int[][] dues = {{0, 0}, {1, 0}, {3, 0}, {4, 1}, {7, 1}, {8, 2}, {9999, 2499}, {10000, 2500}};
+        for (int[] due : dues) {
+            RoomClimate x = new RoomClimate();
+            x.goods(1);
+            x.row(60000, due[0]);
+            x.hour(20000, 10000, 0);
+            t.due("held of " + due[0], x.held(), due[1]);
+            t.due("water by goods", x.book(2, 1), -due[1]);
+        }
     }
 
-    private static void rowRefuses() {
+    private static void theMostGoods() {
         RoomClimate x = new RoomClimate();
-        t.refused("row(-1, 5)", Tester.ARGUMENT, x, () -> x.row(-1, 5));
-        x.row(5000, 5);
-        int[][] wrong = {
-            {60001, 5}, {-1, 5}, {6000, -1}, {6000, 10001}, {5000, 5}, {4999, 5}, {0, 5},
-            {Integer.MAX_VALUE, 5}, {6000, Integer.MAX_VALUE}
-        };
-        for (int[] w : wrong) {
-            t.refused("row(" + w[0] + ", " + w[1] + ")", Tester.ARGUMENT, x, () -> x.row(w[0], w[1]));
+        x.room(1000, 1000);
+        x.goods(1000);
+        x.row(60000, 10000);
+        int[] dues = {2500000, 4375000, 5781250};
+        for (int due : dues) {
+            x.hour(20000, 60000, 0);
+            t.due("held of ten millions", x.held(), due);
+            t.due("water by goods", x.book(2, 1), -due);
         }
-        t.due("row behind refused ones", x.row(5001, 4), 1);
+        x.goods(0);
+        x.hour(20000, 60000, 0);
+        t.due("held when the goods are gone: less 5781250 by 4, rounded up", x.held(), 5781250 - 1445313);
+    }
+
+    private static void noGoodsHoldNothing() {
+        RoomClimate x = new RoomClimate();
+        x.row(60000, 10000);
+        x.hour(20000, 10000, 0);
+        t.due("held by no goods", x.held(), 0);
+        t.due("water by no goods", x.book(2, 1), 0);
     }
 
     private static void goodsTakeAFourth() {
@@ -139,5 +154,72 @@ public final class GoodsTest {
         t.due("held", x.held(), 500);
         t.due("water", x.book(-1, 1), 100);
         t.due("water by goods", x.book(2, 1), -500);
+    }
+
+    /** What they would take is one less than the room's water, all of it, and one more. */
+    private static void goodsTakeJustAllThereIs() {
+        int[][] dues = {{499, 499, 1}, {500, 500, 0}, {501, 500, 0}};
+        for (int[] due : dues) {
+            RoomClimate x = new RoomClimate();
+            x.room(1, 1000);
+            x.goods(4);
+            x.row(60000, due[0]);
+            x.hour(20000, 500, 0);
+            t.due("held where " + due[0] + " would be taken of 500", x.held(), due[1]);
+            t.due("water that is left", x.book(-1, 1), due[2]);
+        }
+        RoomClimate dry = new RoomClimate();
+        dry.room(1, 1000);
+        dry.goods(1000);
+        dry.row(60000, 10000);
+        dry.hour(20000, 0, 0);
+        t.due("held in a room without water", dry.held(), 0);
+        t.due("water by goods", dry.book(2, 1), 0);
+    }
+
+    private static void goodsGiveToADryRoom() {
+        RoomClimate x = new RoomClimate();
+        x.room(1, 1000);
+        x.goods(4);
+        x.row(60000, 10);
+        x.hour(20000, 5000, 0);
+        t.due("held", x.held(), 10);
+        x.goods(0);
+        x.hour(20000, 0, 0);
+        t.due("held when they give", x.held(), 7);
+        t.due("water that they gave", x.book(-1, 1), 3);
+    }
+
+    /** A damp of 0, with some water still, is not above a row's damp of 0; a damp of 1 is. */
+    private static void aRowOfDampNothing() {
+        int[][] dues = {{999, 8}, {1000, 200}};
+        for (int[] due : dues) {
+            RoomClimate x = new RoomClimate();
+            x.room(1, 1000);
+            x.hour(20000, due[0], 0);
+            x.room(1000, 0);
+            t.due("damp", x.damp(), due[0] / 1000);
+            x.goods(4);
+            x.row(0, 8);
+            x.row(1, 200);
+            x.hour(20000, 0, 0);
+            t.due("held with a water of " + due[0], x.held(), due[1]);
+        }
+    }
+
+    private static void aRowOfTheHighestDamp() {
+        int[][] dues = {{999, 60060, 300}, {1000, 60000, 300}};
+        for (int[] due : dues) {
+            RoomClimate x = new RoomClimate();
+            x.room(1000, 1000);
+            x.hour(20000, 60000, 0);
+            x.room(due[0], 0);
+            t.due("damp", x.damp(), due[1]);
+            x.goods(4);
+            x.row(59999, 100);
+            x.row(60000, 300);
+            x.hour(20000, 0, 0);
+            t.due("held at damp " + due[1], x.held(), due[2]);
+        }
     }
 }

@@ -3,19 +3,20 @@ public final class RiskAndAlarmTest {
     private static final Tester t = new Tester();
 
     public static void main(String[] args) {
-        riskRowsAreNumbered();
-        riskRefuses();
-        pointsRefuse();
         pointsByTheLastRowNotAbove();
         risksReadDampOrDegrees();
+        pointsAtTheOutermostLevels();
+        pointsAtTheirEdges();
         pointsAreCountedBehindAll();
-        rulesAreNumbered();
-        ruleRefuses();
-        alarmRefuses();
+        aLaterRowCountsInLaterHours();
+        alarmsThatWereNotTold();
         alarmsByKinds();
+        alarmsAtTheOutermostLevels();
         alarmsHold();
+        alarmsHoldToTheHour();
+        theHoldRunsFromTheLatestAlarm();
+        eachRuleHoldsByItself();
         aLaterRuleKnowsOnlyLaterHours();
-        threeHundredAlarms();
         t.end();
     }
 
@@ -24,48 +25,6 @@ public final class RiskAndAlarmTest {
         RoomClimate x = new RoomClimate();
         x.room(1, 1000);
         return x;
-    }
-
-    private static void riskRowsAreNumbered() {
-        RoomClimate x = new RoomClimate();
-        for (int kind = 0; kind < 4; kind++) {
-            int k = kind;
-            t.due("risk row 0 of " + kind, x.risk(kind, -60000, 0), 0);
-            t.due("risk row 1 of " + kind, x.risk(kind, -59999, 1000), 1);
-            t.due("risk row 2 of " + kind, x.risk(kind, 0, 5), 2);
-            t.due("risk row 3 of " + kind, x.risk(kind, 1, 5), 3);
-            t.due("risk row 4 of " + kind, x.risk(kind, 59999, 5), 4);
-            t.refused("a sixth row of " + kind, Tester.STATE, x, () -> x.risk(k, 60000, 5));
-            t.refused("a sixth row, and wrong, of " + kind, Tester.STATE, x, () -> x.risk(k, 60001, -1));
-        }
-        RoomClimate y = new RoomClimate();
-        t.due("the highest level", y.risk(0, 60000, 5), 0);
-    }
-
-    private static void riskRefuses() {
-        RoomClimate x = new RoomClimate();
-        for (int kind : new int[] {-1, 4, Integer.MIN_VALUE, Integer.MAX_VALUE}) {
-            t.refused("risk(" + kind + ", 0, 0)", Tester.INDEX, x, () -> x.risk(kind, 0, 0));
-            t.refused("risk(" + kind + ", wrong)", Tester.INDEX, x, () -> x.risk(kind, 60001, -1));
-        }
-        t.refused("risk(1, -60001, 5)", Tester.ARGUMENT, x, () -> x.risk(1, -60001, 5));
-        x.risk(1, 500, 5);
-        int[][] wrong = {
-            {60001, 5}, {-60001, 5}, {500, 5}, {499, 5}, {600, -1}, {600, 1001}, {Integer.MAX_VALUE, 5},
-            {600, Integer.MIN_VALUE}
-        };
-        for (int[] w : wrong) {
-            t.refused("risk(1, " + w[0] + ", " + w[1] + ")", Tester.ARGUMENT, x, () -> x.risk(1, w[0], w[1]));
-        }
-        t.due("risk behind refused ones", x.risk(1, 501, 3), 1);
-        t.due("the first row of another risk may be lower", x.risk(2, 499, 3), 0);
-    }
-
-    private static void pointsRefuse() {
-        RoomClimate x = new RoomClimate();
-        for (int kind : new int[] {-1, 4, Integer.MIN_VALUE, Integer.MAX_VALUE}) {
-            t.refused("points(" + kind + ")", Tester.INDEX, x, () -> x.points(kind));
-        }
     }
 
     private static void pointsByTheLastRowNotAbove() {
@@ -101,6 +60,44 @@ public final class RiskAndAlarmTest {
         t.due("risk 3 by degrees", x.points(3), 4);
     }
 
+    private static void pointsAtTheOutermostLevels() {
+        for (int kind = 0; kind < 4; kind++) {
+            RoomClimate x = openRoom();
+            x.risk(kind, -60000, 1);
+            x.risk(kind, 0, 10);
+            x.risk(kind, 60000, 100);
+            x.hour(-60000, 0, 0);
+            t.due("points of " + kind + " at the least", x.points(kind), kind < 2 ? 10 : 1);
+            x.hour(-1, 0, 0);
+            t.due("points of " + kind + " at -1 and 0", x.points(kind), kind < 2 ? 20 : 2);
+            x.hour(0, 0, 0);
+            t.due("points of " + kind + " at 0", x.points(kind), kind < 2 ? 30 : 12);
+            x.hour(59999, 59999, 0);
+            t.due("points of " + kind + " at 59999", x.points(kind), kind < 2 ? 40 : 22);
+            x.hour(60000, 60000, 0);
+            t.due("points of " + kind + " at 60000", x.points(kind), kind < 2 ? 140 : 122);
+        }
+        RoomClimate cold = extremeRoom(-60000, true);
+        cold.risk(2, -60000, 5);
+        cold.hour(0, 0, 0);
+        t.due("points below the least level", cold.points(2), 0);
+    }
+
+    private static void pointsAtTheirEdges() {
+        RoomClimate x = openRoom();
+        x.risk(0, 0, 1000);
+        x.risk(1, 0, 0);
+        x.risk(2, 0, 1000);
+        x.risk(2, 100, 0);
+        for (int h = 0; h < 300; h++) {
+            x.hour(h < 299 ? 0 : 100, 0, 0);
+        }
+        t.due("the most points", x.points(0), 300000);
+        t.due("the least points", x.points(1), 0);
+        t.due("the last row counts, though its points are fewer", x.points(2), 299000);
+        t.due("points without rows", x.points(3), 0);
+    }
+
     private static void pointsAreCountedBehindAll() {
         RoomClimate x = openRoom();
         x.machine(0, 10000, 10000, 500);
@@ -111,44 +108,123 @@ public final class RiskAndAlarmTest {
         t.due("alarms behind the warmer", x.alarm(0, -1), 1);
     }
 
-    private static void rulesAreNumbered() {
-        RoomClimate x = new RoomClimate();
-        t.due("rule 0", x.rule(0, -60000, 1), 0);
-        t.due("rule 1", x.rule(1, 60000, 99), 1);
-        t.due("rule 2", x.rule(2, 0, 50), 2);
-        t.due("rule 3", x.rule(3, 0, 50), 3);
-        t.due("rules", x.count(3), 4);
-        t.refused("a fifth rule", Tester.STATE, x, () -> x.rule(0, 0, 1));
-        t.refused("a fifth rule, and wrong", Tester.STATE, x, () -> x.rule(4, 60001, 0));
+    private static void aLaterRowCountsInLaterHours() {
+        RoomClimate x = openRoom();
+        x.hour(500, 500, 0);
+        x.risk(2, 500, 4);
+        t.due("points before an hour", x.points(2), 0);
+        x.hour(500, 500, 0);
+        x.risk(2, 501, 40);
+        x.hour(501, 500, 0);
+        t.due("points of both rows", x.points(2), 44);
     }
 
-    private static void ruleRefuses() {
-        RoomClimate x = new RoomClimate();
-        int[][] wrong = {
-            {-1, 0, 1}, {4, 0, 1}, {0, -60001, 1}, {0, 60001, 1}, {0, 0, 0}, {0, 0, 100}, {0, 0, -1},
-            {Integer.MAX_VALUE, 0, 1}, {0, Integer.MIN_VALUE, 1}, {0, 0, Integer.MAX_VALUE}
-        };
-        for (int[] w : wrong) {
-            String call = "rule(" + w[0] + ", " + w[1] + ", " + w[2] + ")";
-            t.refused(call, Tester.ARGUMENT, x, () -> x.rule(w[0], w[1], w[2]));
-        }
-        t.due("rule behind refused ones", x.rule(0, 0, 1), 0);
-    }
-
-    private static void alarmRefuses() {
-        RoomClimate x = new RoomClimate();
-        t.refused("alarm(0, -1) without rules", Tester.INDEX, x, () -> x.alarm(0, -1));
-        x.rule(0, 0, 1);
-        for (int rule : new int[] {-1, 1, 3, 4, Integer.MIN_VALUE, Integer.MAX_VALUE}) {
-            t.refused("alarm(" + rule + ", 0)", Tester.INDEX, x, () -> x.alarm(rule, 0));
-        }
-        for (int k : new int[] {-2, -3, Integer.MIN_VALUE}) {
-            t.refused("alarm(0, " + k + ")", Tester.INDEX, x, () -> x.alarm(0, k));
-        }
+    private static void alarmsThatWereNotTold() {
+        RoomClimate x = openRoom();
+        x.rule(0, 1000, 1);
         t.due("alarms of a new rule", x.alarm(0, -1), 0);
         for (int k : new int[] {0, 1, 299, 300, Integer.MAX_VALUE}) {
+            t.due("alarm(0, " + k + ") of a new rule", x.alarm(0, k), RoomClimate.NONE);
+        }
+        x.hour(1000, 0, 0);
+        t.due("alarms at just the level", x.alarm(0, -1), 0);
+        x.hour(1001, 0, 0);
+        x.hour(1001, 0, 0);
+        t.due("alarms", x.alarm(0, -1), 2);
+        int[] due = {1, 2, RoomClimate.NONE, RoomClimate.NONE};
+        for (int k = 0; k < due.length; k++) {
+            t.due("alarm(0, " + k + ")", x.alarm(0, k), due[k]);
+        }
+        for (int k : new int[] {299, 300, Integer.MAX_VALUE}) {
             t.due("alarm(0, " + k + ")", x.alarm(0, k), RoomClimate.NONE);
         }
+    }
+
+    /** A room at -60000 or 60000 degrees, or just beyond by a volume of 999; the damp is 0 or 60000 so, too. */
+    private static RoomClimate extremeRoom(int degrees, boolean beyond) {
+        RoomClimate x = new RoomClimate();
+        x.room(1000, 1000);
+        x.hour(degrees, Math.max(degrees, 0), 0);
+        x.room(beyond ? 999 : 1000, 0);
+        return x;
+    }
+
+    private static void alarmsAtTheOutermostLevels() {
+        for (boolean beyond : new boolean[] {false, true}) {
+            RoomClimate cold = extremeRoom(-60000, beyond);
+            cold.rule(0, -60000, 1);
+            cold.rule(1, -60000, 1);
+            cold.rule(2, -60000, 1);
+            cold.rule(3, -60000, 1);
+            cold.hour(0, 0, 0);
+            t.due("degrees above -60000 in the cold", cold.alarm(0, -1), 0);
+            t.due("degrees below -60000, beyond: " + beyond, cold.alarm(1, -1), beyond ? 1 : 0);
+            t.due("damp above -60000", cold.alarm(2, -1), 1);
+            t.due("damp below -60000", cold.alarm(3, -1), 0);
+            RoomClimate warm = extremeRoom(60000, beyond);
+            warm.rule(0, 60000, 1);
+            warm.rule(1, 60000, 1);
+            warm.rule(2, 60000, 1);
+            warm.rule(3, 60000, 1);
+            warm.hour(0, 0, 0);
+            t.due("degrees above 60000, beyond: " + beyond, warm.alarm(0, -1), beyond ? 1 : 0);
+            t.due("degrees below 60000", warm.alarm(1, -1), 0);
+            t.due("damp above 60000, beyond: " + beyond, warm.alarm(2, -1), beyond ? 1 : 0);
+            t.due("damp below 60000", warm.alarm(3, -1), 0);
+        }
+        RoomClimate dry = openRoom();
+        dry.rule(2, 0, 1);
+        dry.rule(3, 0, 1);
+        dry.rule(2, -1, 1);
+        dry.rule(3, 1, 1);
+        dry.hour(0, 0, 0);
+        t.due("damp 0 above 0", dry.alarm(0, -1), 0);
+        t.due("damp 0 below 0", dry.alarm(1, -1), 0);
+        t.due("damp 0 above -1", dry.alarm(2, -1), 1);
+        t.due("damp 0 below 1", dry.alarm(3, -1), 1);
+    }
+
+    /** In a run of hours that all end so, an alarm comes just every HOLD hours. */
+    private static void alarmsHoldToTheHour() {
+        for (int hold : new int[] {1, 2, 3, 98, 99}) {
+            RoomClimate x = openRoom();
+            x.rule(0, 1000, hold);
+            for (int h = 0; h < 200; h++) {
+                x.hour(2000, 0, 0);
+            }
+            int told = 1 + 199 / hold;
+            t.due("alarms with hold " + hold, x.alarm(0, -1), told);
+            for (int k = 0; k < Math.min(told, 5); k++) {
+                t.due("alarm " + k + " with hold " + hold, x.alarm(0, k), k * hold);
+            }
+        }
+    }
+
+    /** An hour that is held back is no alarm, so the hold does not begin anew with it. */
+    private static void theHoldRunsFromTheLatestAlarm() {
+        RoomClimate x = openRoom();
+        x.rule(0, 1000, 4);
+        boolean[] broken = {true, false, false, true, false, true, true, false, true, true, true};
+        for (boolean b : broken) {
+            x.hour(b ? 2000 : 0, 0, 0);
+        }
+        int[] due = {0, 5, 9, RoomClimate.NONE};
+        for (int k = 0; k < due.length; k++) {
+            t.due("alarm " + k, x.alarm(0, k), due[k]);
+        }
+        t.due("alarms", x.alarm(0, -1), 3);
+    }
+
+    private static void eachRuleHoldsByItself() {
+        RoomClimate x = openRoom();
+        x.rule(0, 1000, 3);
+        x.rule(0, 3000, 3);
+        int[] degrees = {2000, 4000, 4000, 4000, 4000, 4000};
+        for (int d : degrees) {
+            x.hour(d, 0, 0);
+        }
+        t.due("the first rule's alarms", x.alarm(0, 0) + " " + x.alarm(0, 1) + " " + x.alarm(0, 2), "0 3 -1");
+        t.due("the second rule's alarms", x.alarm(1, 0) + " " + x.alarm(1, 1) + " " + x.alarm(1, 2), "1 4 -1");
     }
 
     private static void alarmsByKinds() {
@@ -199,20 +275,5 @@ public final class RiskAndAlarmTest {
         x.hour(2000, 0, 0);
         t.due("alarms of the later rule", x.alarm(0, -1), 1);
         t.due("its hour", x.alarm(0, 0), 2);
-    }
-
-    private static void threeHundredAlarms() {
-        RoomClimate x = openRoom();
-        for (int r = 0; r < 4; r++) {
-            x.rule(0, -60000, 1);
-        }
-        for (int h = 0; h < 300; h++) {
-            x.hour(0, 0, 0);
-        }
-        for (int r = 0; r < 4; r++) {
-            t.due("alarms in all hours", x.alarm(r, -1), 300);
-            t.due("the last alarm", x.alarm(r, 299), 299);
-            t.due("one more", x.alarm(r, 300), RoomClimate.NONE);
-        }
     }
 }

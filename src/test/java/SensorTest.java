@@ -3,9 +3,7 @@ public final class SensorTest {
     private static final Tester t = new Tester();
 
     public static void main(String[] args) {
-        sensorRefuses();
-        checkRefuses();
-        correctedAndSilentRefuse();
+        valuesAtTheirEdges();
         valuesTakeThePlaceOfEarlierOnes();
         checksTakeThePlaceOfEarlierOnes();
         driftOnTheLine();
@@ -15,6 +13,10 @@ public final class SensorTest {
         allHoursWithOneCheck();
         silentFindsTheLongest();
         silentFromAnHourOn();
+        silentInOneHour();
+        silentAtEitherEnd();
+        aCheckNeedsAValue();
+        checksOfNeighbours();
         t.end();
     }
 
@@ -26,46 +28,19 @@ public final class SensorTest {
         return x;
     }
 
-    private static void sensorRefuses() {
-        RoomClimate none = new RoomClimate();
-        t.refused("sensor(0, 5) ahead of all hours", Tester.INDEX, none, () -> none.sensor(0, 5));
-        RoomClimate x = afterHours(3);
-        for (int hour : new int[] {-1, 3, 299, 300, Integer.MIN_VALUE, Integer.MAX_VALUE}) {
-            t.refused("sensor(" + hour + ", 5)", Tester.INDEX, x, () -> x.sensor(hour, 5));
-            t.refused("sensor(" + hour + ", wrong)", Tester.INDEX, x, () -> x.sensor(hour, 100001));
-        }
-        for (int v : new int[] {-100001, 100001, Integer.MIN_VALUE, Integer.MAX_VALUE}) {
-            t.refused("sensor(0, " + v + ")", Tester.ARGUMENT, x, () -> x.sensor(0, v));
-        }
-        x.sensor(0, -100000);
-        x.sensor(2, 100000);
-        t.due("the least value", x.corrected(0), -100000);
-        t.due("the greatest value", x.corrected(2), 100000);
-    }
-
-    private static void checkRefuses() {
-        RoomClimate x = afterHours(3);
-        x.sensor(1, 50);
-        for (int hour : new int[] {-1, 3, 300, Integer.MIN_VALUE, Integer.MAX_VALUE}) {
-            t.refused("check(" + hour + ", 5)", Tester.INDEX, x, () -> x.check(hour, 5));
-            t.refused("check(" + hour + ", wrong)", Tester.INDEX, x, () -> x.check(hour, 100001));
-        }
-        t.refused("check(0, 5) without a value", Tester.STATE, x, () -> x.check(0, 5));
-        t.refused("check(0, wrong) without a value", Tester.STATE, x, () -> x.check(0, 100001));
-        for (int right : new int[] {-100001, 100001, Integer.MIN_VALUE, Integer.MAX_VALUE}) {
-            t.refused("check(1, " + right + ")", Tester.ARGUMENT, x, () -> x.check(1, right));
-        }
-        t.due("checks", x.count(4), 0);
-    }
-
-    private static void correctedAndSilentRefuse() {
-        RoomClimate none = new RoomClimate();
-        t.refused("corrected(0) ahead of all hours", Tester.INDEX, none, () -> none.corrected(0));
-        t.refused("silent(0) ahead of all hours", Tester.INDEX, none, () -> none.silent(0));
-        RoomClimate x = afterHours(3);
-        for (int hour : new int[] {-1, 3, 299, 300, Integer.MIN_VALUE, Integer.MAX_VALUE}) {
-            t.refused("corrected(" + hour + ")", Tester.INDEX, x, () -> x.corrected(hour));
-            t.refused("silent(" + hour + ")", Tester.INDEX, x, () -> x.silent(hour));
+    private static void valuesAtTheirEdges() {
+        for (int v : new int[] {-100000, -99999, -1, 0, 1, 99999, 100000}) {
+            RoomClimate x = afterHours(2);
+            x.sensor(1, v);
+            t.due("value " + v, x.corrected(1), v);
+            t.due("the hour ahead of it", x.corrected(0), -200000);
+            x.check(1, -v);
+            t.due("right instead of " + v, x.corrected(1), -v);
+            x.sensor(0, v);
+            t.due("value " + v + " ahead of the check", x.corrected(0), -v);
+            x.sensor(0, -v);
+            // The drift is twice the value, the other way: at the edges no value's bounds hold it.
+            t.due("value " + -v + " ahead of the check", x.corrected(0), -3 * v);
         }
     }
 
@@ -204,5 +179,63 @@ public final class SensorTest {
         t.due("silent(6)", x.silent(6), 6);
         t.due("silent(7)", x.silent(7), 7);
         t.due("silent(8)", x.silent(8), RoomClimate.NONE);
+    }
+
+    private static void silentInOneHour() {
+        RoomClimate x = afterHours(1);
+        t.due("silent in the only hour", x.silent(0), 0);
+        x.sensor(0, -100000);
+        t.due("silent with a value in the only hour", x.silent(0), RoomClimate.NONE);
+    }
+
+    private static void silentAtEitherEnd() {
+        RoomClimate x = afterHours(7);
+        x.sensor(3, 0);
+        // 0 1 2 . 4 5 6: equal ones, at both ends.
+        t.due("of equal ones the first", x.silent(0), 0);
+        t.due("the row that is cut is shorter", x.silent(1), 4);
+        t.due("silent from a value on", x.silent(3), 4);
+        x.hour(0, 0, 0);
+        t.due("the last row has grown", x.silent(0), 4);
+        x.sensor(7, 0);
+        t.due("of equal ones the first again", x.silent(0), 0);
+        t.due("silent in an hour with a value", x.silent(7), RoomClimate.NONE);
+        t.due("silent in the hour ahead of it", x.silent(6), 6);
+    }
+
+    private static void aCheckNeedsAValue() {
+        RoomClimate x = afterHours(2);
+        t.due("check without a value", Twins.thrownBy(x, y -> y.check(0, 5)), "IllegalStateException");
+        x.sensor(1, 3);
+        t.due("check beside the value", Twins.thrownBy(x, y -> y.check(0, 5)), "IllegalStateException");
+        t.due("checks", x.count(4), 0);
+        x.sensor(0, 0);
+        t.due("check with a value of 0", Twins.thrownBy(x, y -> y.check(0, 5)), "nothing");
+        t.due("checks", x.count(4), 1);
+        t.due("corrected", x.corrected(0), 5);
+        t.due("a refused check", Twins.thrownBy(x, y -> y.check(0, 100001)), "IllegalArgumentException");
+        t.due("a refused value", Twins.thrownBy(x, y -> y.sensor(0, 100001)), "IllegalArgumentException");
+        t.due("corrected behind refused calls", x.corrected(0), 5);
+        t.due("the drift behind refused calls", x.corrected(1), 8);
+    }
+
+    /** Between checks of neighbouring hours there is no hour; each has its own drift. */
+    private static void checksOfNeighbours() {
+        RoomClimate x = afterHours(4);
+        for (int h = 0; h < 4; h++) {
+            x.sensor(h, 100);
+        }
+        x.check(1, 107);
+        x.check(2, 93);
+        int[] due = {107, 107, 93, 93};
+        for (int h = 0; h < 4; h++) {
+            t.due("corrected(" + h + ")", x.corrected(h), due[h]);
+        }
+        x.check(0, 100);
+        x.check(3, 100);
+        int[] own = {100, 107, 93, 100};
+        for (int h = 0; h < 4; h++) {
+            t.due("corrected(" + h + ") with checks of all", x.corrected(h), own[h]);
+        }
     }
 }

@@ -3,54 +3,42 @@ public final class WallTest {
     private static final Tester t = new Tester();
 
     public static void main(String[] args) {
-        wallsAreNumbered();
-        wallRefuses();
-        layerRefuses();
+        wallsAtTheirEdges();
+        withoutLayersNothingHappens();
         flowsGoOutwardsInTurn();
         oneLayerLosesToTheOutside();
         conductanceZeroKeepsApart();
+        flowsAreRoundedDown();
+        theOutsideIsRoundedDown();
         layersHeatsAreRoundedDown();
-        dewByLayers();
-        dewWhereItFreezes();
+        aLayerIsToldWithItsOwnHeat();
+        dewByDegreesAndDamp();
+        dewOfEachLayer();
         t.end();
     }
 
-    private static void wallsAreNumbered() {
-        RoomClimate x = new RoomClimate();
-        t.due("wall 0", x.wall(0, 1), 0);
-        t.due("wall 1", x.wall(100, 1000), 1);
-        t.due("wall 2", x.wall(50, 7), 2);
-        t.due("wall 3", x.wall(1, 1), 3);
-        t.due("wall 4", x.wall(1, 1), 4);
-        t.due("layers", x.count(1), 5);
-        for (int k = 0; k < 5; k++) {
-            t.due("layer when told " + k, x.layer(k), 20000);
+    private static void wallsAtTheirEdges() {
+        int[][] walls = {{0, 1}, {0, 1000}, {100, 1}, {100, 1000}, {50, 500}};
+        for (int[] wall : walls) {
+            RoomClimate x = new RoomClimate();
+            t.due("the first wall", x.wall(wall[0], wall[1]), 0);
+            t.due("layer when told", x.layer(0), 20000);
+            x.room(100, 0);
+            x.hour(30000, 0, 0);
+            // Nothing comes from the room, which is as warm; from outside conductance * 10000 by 100.
+            t.due("layer by the outside", x.layer(0), 20000 + wall[0] * 100 / wall[1]);
+            t.due("heat by walls", x.book(1, 0), 0);
         }
-        t.refused("a sixth wall", Tester.STATE, x, () -> x.wall(1, 1));
-        t.refused("a sixth wall, and wrong", Tester.STATE, x, () -> x.wall(-1, 0));
     }
 
-    private static void wallRefuses() {
+    private static void withoutLayersNothingHappens() {
         RoomClimate x = new RoomClimate();
-        x.wall(10, 10);
-        int[][] wrong = {
-            {-1, 10}, {101, 10}, {10, 0}, {10, 1001}, {10, -1}, {Integer.MAX_VALUE, 1}, {1, Integer.MIN_VALUE}
-        };
-        for (int[] w : wrong) {
-            t.refused("wall(" + w[0] + ", " + w[1] + ")", Tester.ARGUMENT, x, () -> x.wall(w[0], w[1]));
-        }
-        t.due("wall behind refused ones", x.wall(10, 10), 1);
-    }
-
-    private static void layerRefuses() {
-        RoomClimate x = new RoomClimate();
-        t.refused("layer(0) without walls", Tester.INDEX, x, () -> x.layer(0));
-        t.refused("dew(0) without walls", Tester.INDEX, x, () -> x.dew(0));
-        x.wall(10, 10);
-        for (int k : new int[] {-1, 1, 4, 5, Integer.MIN_VALUE, Integer.MAX_VALUE}) {
-            t.refused("layer(" + k + ")", Tester.INDEX, x, () -> x.layer(k));
-            t.refused("dew(" + k + ")", Tester.INDEX, x, () -> x.dew(k));
-        }
+        x.room(100, 0);
+        x.hour(-60000, 0, 0);
+        x.hour(60000, 0, 0);
+        t.due("heat by walls", x.book(1, 0), 0);
+        t.due("heat", x.book(-1, 0), 2000000);
+        t.due("layers", x.count(1), 0);
     }
 
     private static void flowsGoOutwardsInTurn() {
@@ -104,6 +92,36 @@ public final class WallTest {
         t.due("heat by walls", x.book(1, 0), 0);
     }
 
+    /** With conductance 1 the flow is a hundredth of the difference, here of the air in the room to the layer. */
+    private static void flowsAreRoundedDown() {
+        int[][] dues = {
+            {0, 0}, {1, 0}, {99, 0}, {100, 1}, {199, 1}, {200, 2}, {-1, -1}, {-99, -1}, {-100, -1}, {-101, -2}
+        };
+        for (int[] due : dues) {
+            RoomClimate x = new RoomClimate();
+            x.room(100, 1000);
+            x.wall(1, 1);
+            x.wall(0, 1);
+            x.hour(20000 + due[0], 0, 0);
+            t.due("flow at a difference of " + due[0], -x.book(1, 0), due[1]);
+            t.due("layer at a difference of " + due[0], x.layer(0), 20000 + due[1]);
+        }
+    }
+
+    private static void theOutsideIsRoundedDown() {
+        int[][] dues = {
+            {0, 0}, {1, 0}, {99, 0}, {100, 1}, {199, 1}, {200, 2}, {-1, -1}, {-99, -1}, {-100, -1}, {-101, -2}
+        };
+        for (int[] due : dues) {
+            RoomClimate x = new RoomClimate();
+            x.room(100, 0);
+            x.wall(1, 1);
+            x.hour(20000 + due[0], 0, 0);
+            t.due("layer by a difference outside of " + due[0], x.layer(0), 20000 + due[1]);
+            t.due("heat by walls", x.book(1, 0), 0);
+        }
+    }
+
     private static void layersHeatsAreRoundedDown() {
         RoomClimate x = new RoomClimate();
         x.room(100, 1000);
@@ -117,33 +135,58 @@ public final class WallTest {
         y.wall(100, 1);
         y.hour(-1, 0, 0);
         t.due("layer below 0", y.layer(0), -1);
+        RoomClimate z = new RoomClimate();
+        z.room(1, 1000);
+        z.wall(100, 3);
+        z.hour(-60000, 0, 0);
+        // Flow: -80000: layer -20000, by 3 = -6667. From outside: -53333: -73333, by 3 = -24444.3.
+        t.due("layer below 0, in parts", z.layer(0), -24445);
+        t.due("room", z.degrees(), 20000);
     }
 
-    private static void dewByLayers() {
+    private static void aLayerIsToldWithItsOwnHeat() {
         RoomClimate x = new RoomClimate();
-        x.room(100, 1000);
-        x.wall(0, 1);
-        x.hour(20000, 20000, 0);
-        t.due("dew at equal numbers", x.dew(0), false);
-        x.hour(20000, 20001, 0);
-        t.due("dew just above", x.dew(0), true);
-        x.hour(20000, 19999, 0);
-        t.due("dew just below", x.dew(0), false);
+        x.room(1, 1000);
+        x.hour(-60000, 0, 0);
+        for (int k = 0; k < 5; k++) {
+            x.wall(100, 1 + k * 249);
+            t.due("layer of a cold room, when told", x.layer(k), 20000);
+        }
+        t.due("heat when layers are told", x.book(-1, 0), -60000);
     }
 
-    private static void dewWhereItFreezes() {
-        RoomClimate x = new RoomClimate();
-        x.room(100, 1000);
-        x.wall(100, 1);
-        x.hour(-5000, 0, 0);
-        t.due("the layer's degrees", x.layer(0), -5000);
-        t.due("dew without water below 0", x.dew(0), false);
-        x.hour(-5000, 1, 0);
-        t.due("dew with a little water below 0", x.dew(0), true);
-        x.hour(0, 1, 0);
-        t.due("the layer's degrees", x.layer(0), 0);
-        t.due("dew with a little water at 0", x.dew(0), true);
-        x.hour(0, 0, 0);
-        t.due("dew without water at 0", x.dew(0), false);
+    /** The layer's degrees, the room's damp, and whether there is dew. */
+    private static void dewByDegreesAndDamp() {
+        int[][] dues = {
+            {20000, 19999, 0}, {20000, 20000, 0}, {20000, 20001, 1}, {2, 2, 0}, {2, 3, 1}, {1, 0, 0}, {1, 1, 0},
+            {1, 2, 1}, {0, 0, 0}, {0, 1, 1}, {-1, 0, 0}, {-1, 1, 1}, {-60000, 0, 0}, {-60000, 1, 1}, {60000, 60000, 0},
+            {59999, 60000, 1}
+        };
+        for (int[] due : dues) {
+            RoomClimate x = new RoomClimate();
+            x.room(1, 1000);
+            x.wall(100, 1);
+            x.hour(due[0], 0, 0);
+            x.hour(due[0], due[1], 0);
+            t.due("the layer's degrees", x.layer(0), due[0]);
+            t.due("the room's damp", x.damp(), due[1]);
+            t.due("dew at " + due[0] + " with " + due[1], x.dew(0), due[2] == 1);
+        }
+    }
+
+    private static void dewOfEachLayer() {
+        int[][] dues = {{10000, 0, 0}, {10001, 1, 0}, {20000, 1, 0}, {20001, 1, 1}};
+        for (int[] due : dues) {
+            RoomClimate x = new RoomClimate();
+            x.room(1, 1000);
+            x.wall(100, 1);
+            x.hour(10000, 0, 0);
+            x.wall(0, 1);
+            x.hour(10000, due[0], 0);
+            t.due("inner layer", x.layer(0), 10000);
+            t.due("outer layer", x.layer(1), 20000);
+            t.due("dew on the inner layer with " + due[0], x.dew(0), due[1] == 1);
+            t.due("dew on the outer layer with " + due[0], x.dew(1), due[2] == 1);
+        }
     }
 }
