@@ -1,79 +1,97 @@
+import java.io.IOException;
+import java.lang.reflect.Constructor;
 import java.lang.reflect.Field;
+import java.lang.reflect.Member;
 import java.lang.reflect.Method;
 import java.lang.reflect.Modifier;
-import java.util.Arrays;
+import java.nio.file.Files;
+import java.nio.file.Path;
 import java.util.TreeSet;
 
-/** The public face is the document's, and all beside it is private. */
+/** The public face is the one that stands in the document, no member more and none less. */
 public final class FaceTest {
-    private static final String[] METHODS = {
-        "void room(int,int) A", "int wall(int,int) S A", "int goods(int) A", "int row(int,int) S A",
-        "void machine(int,int,int,int) I A", "int hour(int,int,int) S A", "int degrees()", "int damp()",
-        "int layer(int) I", "int held()", "boolean on(int) I", "long book(int,int) I", "boolean dew(int) I",
-        "int risk(int,int,int) I S A", "int points(int) I", "int rule(int,int,int) S A", "int alarm(int,int) I",
-        "void sensor(int,int) I A", "void check(int,int) I S A", "int corrected(int) I", "int silent(int) I",
-        "int plan(int,int,int) A", "int count(int) I"
-    };
+    private static final Class<?> FACE = RoomClimate.class;
+    private static final Tester t = new Tester();
 
-    public static void main(String[] args) throws ReflectiveOperationException {
-        Tester t = new Tester();
-        Class<?> face = RoomClimate.class;
-        t.due("its modifiers", Modifier.toString(face.getModifiers()), "public final");
-        t.due("its constructors", Arrays.toString(face.getDeclaredConstructors()), "[public RoomClimate()]");
-        t.due("its methods", publicMethods(face), new TreeSet<>(Arrays.asList(METHODS)));
-        for (Field field : face.getDeclaredFields()) {
-            boolean none = field.getName().equals("NONE");
-            String start = Modifier.toString(field.getModifiers());
-            t.due("field " + field.getName(), start.startsWith(none ? "public static final" : "private"), true);
+    public static void main(String[] args) throws IOException, ReflectiveOperationException {
+        TreeSet<String> due = documentsMembers();
+        t.due("members that the document tells", due.size(), 25);
+        TreeSet<String> found = visibleMembers();
+        for (String member : due) {
+            t.due("the program has " + member, found.contains(member), true);
         }
-        t.due("NONE", face.getField("NONE").getInt(null), -1);
-        for (Class<?> inside : face.getDeclaredClasses()) {
-            t.due("class " + inside.getName(), Modifier.isStatic(inside.getModifiers()), true);
-            t.due("class " + inside.getName(), Modifier.isPublic(inside.getModifiers()), false);
+        for (String member : found) {
+            t.due("the document has " + member, due.contains(member), true);
         }
-        privateMethodsBearOtherNames(t, face);
+        t.due("the class", FACE.toGenericString(), "public final class RoomClimate");
+        t.due("its package", FACE.getPackageName(), "");
+        t.due("what it extends", FACE.getSuperclass(), Object.class);
+        t.due("what it implements", FACE.getInterfaces().length, 0);
+        t.due("NONE", FACE.getField("NONE").getInt(null), -1);
+        classesInsideAreHidden();
+        privateMethodsBearOtherNames();
         t.end();
     }
 
-    private static TreeSet<String> publicMethods(Class<?> face) {
-        TreeSet<String> found = new TreeSet<>();
-        for (Method method : face.getDeclaredMethods()) {
-            if (!Modifier.isPrivate(method.getModifiers())) {
-                found.add(signature(method));
+    /** The lines of the document's block of Java, without the names of parameters and with no space more. */
+    private static TreeSet<String> documentsMembers() throws IOException {
+        String document = Files.readString(Path.of("../shared/DOC.md"));
+        String block = document.split("```java\n")[1].split("```")[0];
+        TreeSet<String> members = new TreeSet<>();
+        for (String line : block.split("\n")) {
+            String member = line.strip();
+            if (member.endsWith(";")) {
+                members.add(member.replaceAll("( = -?\\d+)?;$", "")
+                    .replaceAll("(int|long|boolean) \\w+(?=[,)])", "$1")
+                    .replace(", ", ","));
             }
         }
-        return found;
+        return members;
     }
 
-    private static String signature(Method method) {
-        StringBuilder text = new StringBuilder();
-        text.append(method.getReturnType()).append(' ').append(method.getName()).append('(');
-        String comma = "";
-        for (Class<?> type : method.getParameterTypes()) {
-            text.append(comma).append(type);
-            comma = ",";
+    private static TreeSet<String> visibleMembers() {
+        TreeSet<String> members = new TreeSet<>();
+        for (Field field : FACE.getDeclaredFields()) {
+            addUnlessPrivate(members, field, field.toGenericString());
         }
-        text.append(')');
-        for (Class<?> type : method.getExceptionTypes()) {
-            text.append(' ').append(letter(type));
+        for (Constructor<?> constructor : FACE.getDeclaredConstructors()) {
+            addUnlessPrivate(members, constructor, constructor.toGenericString());
         }
-        return text.toString();
+        for (Method method : FACE.getDeclaredMethods()) {
+            addUnlessPrivate(members, method, method.toGenericString());
+        }
+        return members;
     }
 
-    private static char letter(Class<?> type) {
-        return type == IndexOutOfBoundsException.class ? 'I'
-            : type == IllegalStateException.class ? 'S'
-            : type == IllegalArgumentException.class ? 'A' : '?';
+    private static void addUnlessPrivate(TreeSet<String> members, Member member, String text) {
+        if (!Modifier.isPrivate(member.getModifiers())) {
+            members.add(text.replace("RoomClimate.", "").replace("java.lang.", "").replace(", ", ","));
+        }
     }
 
-    private static void privateMethodsBearOtherNames(Tester t, Class<?> face) {
+    private static void classesInsideAreHidden() {
+        for (Class<?> inside : FACE.getDeclaredClasses()) {
+            int modifiers = inside.getModifiers();
+            t.due(inside + " is static", Modifier.isStatic(modifiers), true);
+            t.due(inside + " is public", Modifier.isPublic(modifiers), false);
+            t.due(inside + " is protected", Modifier.isProtected(modifiers), false);
+        }
+    }
+
+    private static void privateMethodsBearOtherNames() {
         TreeSet<String> names = new TreeSet<>();
-        for (Method method : face.getMethods()) {
+        for (Method method : FACE.getMethods()) {
             names.add(method.getName());
         }
-        for (Method method : face.getDeclaredMethods()) {
+        for (Method method : FACE.getDeclaredMethods()) {
             if (Modifier.isPrivate(method.getModifiers())) {
                 t.due("the name " + method.getName() + " is also public", names.contains(method.getName()), false);
+            }
+        }
+        for (Class<?> inside : FACE.getDeclaredClasses()) {
+            for (Method method : inside.getDeclaredMethods()) {
+                t.due("the name " + method.getName() + " of " + inside + " is also public",
+                    names.contains(method.getName()), false);
             }
         }
     }

@@ -5,6 +5,7 @@ import java.lang.reflect.Method;
 import java.lang.reflect.Modifier;
 import java.nio.file.Files;
 import java.nio.file.Path;
+import java.util.ArrayList;
 import java.util.Arrays;
 import java.util.Comparator;
 import java.util.List;
@@ -36,9 +37,23 @@ public final class LanguageTest {
         t.due("the text throws something else", thrown.find(), false);
         Matcher notFinal = Pattern.compile("static (?!final)[a-z\\[\\]]+ \\w+( =|;)").matcher(source);
         t.due("the text has a static field that is not final", notFinal.find(), false);
+        sizesStaySmall(t);
         callsMakeNoObjects(t);
         callsThrowOnlyWhatTheyTell(t);
         t.end();
+    }
+
+    private static void sizesStaySmall(Tester t) {
+        List<Class<?>> classes = new ArrayList<>(List.of(RoomClimate.class.getDeclaredClasses()));
+        classes.add(RoomClimate.class);
+        t.due("at most twelve classes, not " + classes.size(), classes.size() <= 12, true);
+        for (Class<?> one : classes) {
+            long fields = Arrays.stream(one.getDeclaredFields()).filter(f -> !Modifier.isStatic(f.getModifiers())).count();
+            t.due("at most twenty fields of " + one + ", not " + fields, fields <= 20, true);
+            for (Method method : one.getDeclaredMethods()) {
+                t.due("at most seven parameters of " + method, method.getParameterCount() <= 7, true);
+            }
+        }
     }
 
     private static void callsMakeNoObjects(Tester t) {
